@@ -32,15 +32,15 @@ public final class SaidShallow {
 
     private final int[] tape = new int[TAPE_ROOM];
     private int tapeLength;
-    private final Tongue tongue = new Tongue();
+    private final Rows rows = new Rows();
+    private final Tongue tongue = rows.tongue;
+    private final Words words = rows.words;
     private final Standing standing = new Standing();
     private final Tongue imageTongue = new Tongue();
     private final Standing imageStanding = new Standing();
     private boolean imageTaken;
     private final Reader reader = new Reader();
-    private final Words words = new Words();
-    private final Rows rows = new Rows(tongue, words);
-    private final BestOrder bestOrder = new BestOrder(tongue, rows);
+    private final BestOrder bestOrder = new BestOrder();
     private final int[] couples = new int[COUPLES];
     private int coupleCount;
     private int brokenPlace = NONE;
@@ -76,8 +76,7 @@ public final class SaidShallow {
     }
 
     public int text() {
-        boolean told = reader.read(tape, emptyTape());
-        if (!told) {
+        if (!reader.read(tape, emptyTape())) {
             return NONE;
         }
         tongue.copyFrom(reader.draft);
@@ -225,11 +224,11 @@ public final class SaidShallow {
         if (n < 1 || n > 2 || ordered > MOST_ORDERED || (what != 0 && what != 1 && !asksRule)) {
             return NONE;
         }
-        bestOrder.refresh(n, standing, changes);
+        bestOrder.refresh(n, rows, standing, changes);
         if (asksRule) {
             return bestOrder.best[what - 10];
         }
-        return what == 0 ? bestOrder.bestAgreed : bestOrder.wordCount();
+        return what == 0 ? bestOrder.bestAgreed : bestOrder.wordCount(tongue.letterCount);
     }
 
     public int quarrel(int a, int b) {
@@ -500,7 +499,7 @@ public final class SaidShallow {
     private int firstParted(int a, int b, int n) {
         int number = 0;
         int many = 1;
-        for (int length = 1; length <= n; length++) {
+        for (int length = 1; length <= n && a != b; length++) {
             many *= tongue.letterCount;
             for (int index = 0; index < many; index++) {
                 rows.takeNumbered(length, index);
@@ -593,22 +592,22 @@ public final class SaidShallow {
             return inSets && (deep == said || (saidSets[item] & ITSELF) == 0);
         }
 
-        /** With the places behind starred ITEMS, which may stand for none. */
+        /**
+         * With the places behind starred ITEMS, which may stand for none: the sum's
+         * carry runs from a place through the starred ITEMS that follow one another,
+         * and stops behind them, at the sixth bit at the latest.
+         */
         int closure(int mask) {
-            int all = mask;
-            for (int i = 0; i < MOST_ITEMS; i++) {
-                all |= (all & starred) << 1;
-            }
-            return all;
+            return mask | ((mask & starred) + starred ^ starred);
         }
 
         int step(int mask, int pair) {
             int taken = mask & fitting[pair];
-            int all = (taken & ~starred) << 1 | (taken & starred);
-            for (int i = 0; i < MOST_ITEMS; i++) {
-                all |= (all & starred) << 1;
+            if (taken == 0) {
+                return 0;
             }
-            return all;
+            int all = (taken & ~starred) << 1 | (taken & starred);
+            return all | ((all & starred) + starred ^ starred);
         }
 
         /** Which CONTEXTS have come to their end, as a set of three. */
@@ -889,6 +888,9 @@ public final class SaidShallow {
 
     /** What a TEXT tells. A sign is 0 for silence, else 1 more than the LETTER's number. */
     private static final class Tongue {
+        /** The PAIR of a sign with itself, and the others. */
+        static final int ROOM_OF_ONE = 1 + MOST_OF_ONE;
+
         final int[] signAt = new int[26];
         int letterCount;
         final int[] classes = new int[CLASSES];
@@ -897,8 +899,11 @@ public final class SaidShallow {
         final int[] deepOf = new int[MOST_PAIRS];
         final int[] saidOf = new int[MOST_PAIRS];
         int pairCount;
-        final int[] extrasOfDeep = new int[SIGNS];
-        final int[] extrasOfSaid = new int[SIGNS];
+        private final int[] extrasOfDeep = new int[SIGNS];
+        private final int[] extrasOfSaid = new int[SIGNS];
+        /** By 4 * sign + 0 .. 3: 1 more than the PAIR's number, 0 if there is none. */
+        final int[] pairsOfDeep = new int[SIGNS * ROOM_OF_ONE];
+        final int[] pairsOfSaid = new int[SIGNS * ROOM_OF_ONE];
         final Rule[] rules = new Rule[MOST_RULES];
         int ruleCount;
         final WordList stems = new WordList(MOST_STEMS);
@@ -919,6 +924,8 @@ public final class SaidShallow {
             pairCount = 0;
             Arrays.fill(extrasOfDeep, 0);
             Arrays.fill(extrasOfSaid, 0);
+            Arrays.fill(pairsOfDeep, 0);
+            Arrays.fill(pairsOfSaid, 0);
             ruleCount = 0;
             stems.clear();
             ends.clear();
@@ -932,8 +939,8 @@ public final class SaidShallow {
             System.arraycopy(other.deepOf, 0, deepOf, 0, deepOf.length);
             System.arraycopy(other.saidOf, 0, saidOf, 0, saidOf.length);
             pairCount = other.pairCount;
-            System.arraycopy(other.extrasOfDeep, 0, extrasOfDeep, 0, extrasOfDeep.length);
-            System.arraycopy(other.extrasOfSaid, 0, extrasOfSaid, 0, extrasOfSaid.length);
+            System.arraycopy(other.pairsOfDeep, 0, pairsOfDeep, 0, pairsOfDeep.length);
+            System.arraycopy(other.pairsOfSaid, 0, pairsOfSaid, 0, pairsOfSaid.length);
             ruleCount = other.ruleCount;
             for (int k = 0; k < ruleCount; k++) {
                 rules[k].copyFrom(other.rules[k]);
@@ -958,7 +965,7 @@ public final class SaidShallow {
             if (letterCount < MOST_LETTERS) {
                 letterCount++;
                 signAt[character - 'a'] = letterCount;
-                keepPair(letterCount, letterCount);
+                keepPair(letterCount, letterCount, 0, 0);
             }
         }
 
@@ -973,15 +980,17 @@ public final class SaidShallow {
             }
             extrasOfDeep[deep]++;
             extrasOfSaid[said]++;
-            keepPair(deep, said);
+            keepPair(deep, said, extrasOfDeep[deep], extrasOfSaid[said]);
             return true;
         }
 
-        private void keepPair(int deep, int said) {
+        private void keepPair(int deep, int said, int placeOfDeep, int placeOfSaid) {
             deepOf[pairCount] = deep;
             saidOf[pairCount] = said;
             pairCount++;
             pairAt[deep * SIGNS + said] = pairCount;
+            pairsOfDeep[deep * ROOM_OF_ONE + placeOfDeep] = pairCount;
+            pairsOfSaid[said * ROOM_OF_ONE + placeOfSaid] = pairCount;
         }
 
         void compile() {
@@ -1120,8 +1129,10 @@ public final class SaidShallow {
         private final int[] signs = new int[TAPE_ROOM];
         private int length;
         private int at;
-        /** What S or X was read last: an S's sign, an X's set of signs. */
+        /** What was read last: an S's sign, a P's two, an X's set of signs. */
         private int readSign;
+        private int readDeep;
+        private int readSaid;
         private int readSet;
 
         boolean read(int[] tape, int tapeLength) {
@@ -1266,36 +1277,33 @@ public final class SaidShallow {
             return true;
         }
 
-        /** The PAIR that is read opens a new RULE's place too, if there is one. */
         private boolean readPair() {
             peek();
             int start = at;
             if (!readS()) {
                 return false;
             }
-            int deep = readSign;
+            readDeep = readSign;
             if (!expect(':') || !readS()) {
                 return false;
             }
-            int said = readSign;
-            if (deep == 0 && said == 0) {
+            readSaid = readSign;
+            if (readDeep == 0 && readSaid == 0) {
                 return fail(NOT_TOLD, start);
             }
-            if (!draft.addPair(deep, said)) {
-                return fail(ONE_TOO_MANY, start);
-            }
-            if (draft.ruleCount < MOST_RULES) {
-                draft.rules[draft.ruleCount].clear(deep, said);
-            }
-            return true;
+            return draft.addPair(readDeep, readSaid) || fail(ONE_TOO_MANY, start);
         }
 
         private boolean readRule(int keywordPlace) {
             if (draft.ruleCount == MOST_RULES) {
                 return fail(ONE_TOO_MANY, keywordPlace);
             }
+            if (!readPair()) {
+                return false;
+            }
             Rule rule = draft.rules[draft.ruleCount];
-            if (!readPair() || !readOp(rule)) {
+            rule.clear(readDeep, readSaid);
+            if (!readOp(rule)) {
                 return false;
             }
             for (int i = 0; i <= MOST_CONTEXTS; i++) {
@@ -1361,63 +1369,45 @@ public final class SaidShallow {
             return true;
         }
 
+        /** A FAULT 2 at an ITEM's first sign comes ahead of the FAULT 3 there. */
         private boolean readItems(Side side, int context) {
             for (int count = 0; startsItem(peek()); count++) {
-                if (count == MOST_ITEMS) {
-                    return failAtItemTooMany();
-                }
-                if (!readItem(side, context)) {
-                    return false;
-                }
-            }
-            return true;
-        }
-
-        /** A FAULT 2 at the same place comes ahead of the FAULT 3. */
-        private boolean failAtItemTooMany() {
-            int start = at;
-            boolean isSilence = signs[at] == '0';
-            if (!readX()) {
-                return false;
-            }
-            boolean bothSilence = isSilence && skipIf(':') && isNext('0');
-            return fail(bothSilence ? NOT_TOLD : ONE_TOO_MANY, start);
-        }
-
-        private boolean readItem(Side side, int context) {
-            int start = at;
-            int first = signs[at];
-            if (!readX()) {
-                return false;
-            }
-            int deepSet = readSet;
-            int saidSet = isClass(first) ? readSet | Side.ITSELF : readSet;
-            if (skipIf(':')) {
-                int second = peek();
+                int start = at;
+                int first = signs[at];
                 if (!readX()) {
                     return false;
                 }
-                if (first == '0' && second == '0') {
+                int deepSet = readSet;
+                int saidSet = isClass(first) ? readSet | Side.ITSELF : readSet;
+                boolean isCouple = skipIf(':');
+                if (isCouple && first == '0' && isNext('0')) {
                     return fail(NOT_TOLD, start);
                 }
-                saidSet = readSet;
+                if (count == MOST_ITEMS) {
+                    return fail(ONE_TOO_MANY, start);
+                }
+                if (isCouple) {
+                    if (!readX()) {
+                        return false;
+                    }
+                    saidSet = readSet;
+                }
+                side.addItem(context, deepSet, saidSet, skipIf('*'));
             }
-            side.addItem(context, deepSet, saidSet, skipIf('*'));
             return true;
         }
 
         private boolean readX() {
             int sign = peek();
-            if (!startsItem(sign)) {
-                return fail(CANT_STAND, at);
-            }
             if (isSmall(sign)) {
                 int letter = draft.signOf(sign);
                 readSet = letter == 0 ? 0 : 1 << letter;
             } else if (isClass(sign)) {
                 readSet = draft.classes[sign - 'A'];
-            } else {
+            } else if (sign == '0' || sign == '?') {
                 readSet = sign == '0' ? 1 : Side.ALL_SIGNS;
+            } else {
+                return fail(CANT_STAND, at);
             }
             if (readSet == 0) {
                 return fail(NOT_TOLD, at);
@@ -1456,7 +1446,8 @@ public final class SaidShallow {
     private static final class Track {
         static final int DEPTHS = LONGEST_SEARCHED + 1;
         static final int MOST_OWED = LONGEST_SEARCHED + 1;
-        static final int MOST_WRITTEN = MOST_RULES * (3 + MOST_OWED);
+        static final int MOST_WRITTEN = MOST_RULES * (1 + MOST_OWED);
+        static final int MASK_BITS = MOST_CONTEXTS * Side.LANE;
 
         private final int[] left = new int[DEPTHS * MOST_RULES];
         private final int[] barred = new int[DEPTHS * MOST_RULES];
@@ -1477,27 +1468,35 @@ public final class SaidShallow {
         int step(Tongue tongue, int watched, int depth, int pair) {
             int all = broken[depth];
             int live = watched & ~all;
-            for (int k = 0; k < tongue.ruleCount; k++) {
-                if ((live >> k & 1) == 1 && advance(tongue.rules[k], depth * MOST_RULES + k, pair)) {
-                    all |= 1 << k;
+            int from = depth * MOST_RULES;
+            for (int k = 0; k < MOST_RULES && live >> k != 0; k++) {
+                if ((live >> k & 1) == 1) {
+                    Rule rule = tongue.rules[k];
+                    int to = from + k + MOST_RULES;
+                    left[to] = rule.left.step(left[from + k], pair) | rule.anywhere;
+                    barred[to] = 0;
+                    owedCount[to] = 0;
+                    boolean isAtRest = (rule.roles[pair] | barred[from + k] | owedCount[from + k]) == 0;
+                    if (!isAtRest && advance(rule, from + k, pair)) {
+                        all |= 1 << k;
+                    }
                 }
             }
             broken[depth + 1] = all;
             return all;
         }
 
+        /** What is open on the right goes on, and what the new PAIR asks comes to it. */
         private boolean advance(Rule rule, int from, int pair) {
             int to = from + MOST_RULES;
             int role = rule.roles[pair];
             int opening = role == 0 ? 0 : rule.opened[Side.holding(left[from])];
-            left[to] = rule.left.step(left[from], pair) | rule.anywhere;
             int bars = rule.right.step(barred[from], pair);
             if (role == Rule.BARS) {
                 bars |= opening;
             }
             barred[to] = bars;
             boolean isBroken = (bars & rule.free) != 0;
-            owedCount[to] = 0;
             for (int i = 0; i < owedCount[from] && !isBroken; i++) {
                 isBroken = !owe(rule, to, rule.right.step(owed[from * MOST_OWED + i], pair));
             }
@@ -1528,11 +1527,13 @@ public final class SaidShallow {
         }
 
         /** Which of the RULES are broken, if the ROW ends here. */
-        int finish(Tongue tongue, int watched, int depth) {
+        int finish(int watched, int depth) {
             int all = broken[depth];
-            for (int k = 0; k < tongue.ruleCount; k++) {
-                int at = depth * MOST_RULES + k;
-                if (((watched & ~all) >> k & 1) == 1 && !endsWell(at)) {
+            int live = watched & ~all;
+            int at = depth * MOST_RULES;
+            for (int k = 0; k < MOST_RULES && live >> k != 0; k++) {
+                boolean isAtRest = (barred[at + k] | owedCount[at + k]) == 0;
+                if ((live >> k & 1) == 1 && !isAtRest && !endsWell(at + k)) {
                     all |= 1 << k;
                 }
             }
@@ -1552,16 +1553,18 @@ public final class SaidShallow {
         }
 
         /** Writes all that what comes can hang on; the answer is the place behind it. */
-        int writeTo(int[] row, int place, int watched, int depth) {
+        int writeTo(long[] row, int place, int watched, int depth) {
             int next = place;
             for (int k = 0; k < MOST_RULES; k++) {
                 if ((watched >> k & 1) == 1) {
                     int at = depth * MOST_RULES + k;
-                    row[next] = left[at];
-                    row[next + 1] = barred[at];
-                    row[next + 2] = owedCount[at];
-                    System.arraycopy(owed, at * MOST_OWED, row, next + 3, owedCount[at]);
-                    next += 3 + owedCount[at];
+                    long both = (long) barred[at] << MASK_BITS | left[at];
+                    row[next] = (long) owedCount[at] << 2 * MASK_BITS | both;
+                    next++;
+                    for (int i = 0; i < owedCount[at]; i++) {
+                        row[next] = owed[at * MOST_OWED + i];
+                        next++;
+                    }
                 }
             }
             return next;
@@ -1570,14 +1573,14 @@ public final class SaidShallow {
 
     /** States of a search behind which no ALLOWED ROW lies, each looked into once. */
     private static final class DeadEnds {
-        static final int SLOTS = 2048;
-        static final int MOST = 1024;
+        static final int SLOTS = 4096;
+        static final int MOST = 3072;
         static final int POOL = 32768;
 
         /** 1 more than the place in the pool, 0 if the slot is free. */
         private final int[] slots = new int[SLOTS];
-        private final int[] pool = new int[POOL];
-        private final int[] key = new int[1 + Track.MOST_WRITTEN];
+        private final long[] pool = new long[POOL];
+        private final long[] key = new long[1 + Track.MOST_WRITTEN];
         private int keyLength;
         private int count;
         private int used;
@@ -1613,13 +1616,13 @@ public final class SaidShallow {
         }
 
         private int slotOfKey() {
-            int hash = keyLength;
+            long hash = keyLength;
             for (int i = 0; i < keyLength; i++) {
-                hash = (hash ^ key[i]) * 0x01000193;
-                hash ^= hash >>> 15;
+                hash = (hash ^ key[i]) * 0x5851F42D4C957F2DL;
+                hash ^= hash >>> 32;
             }
             for (int i = 0; i < SLOTS; i++) {
-                int slot = hash + i & SLOTS - 1;
+                int slot = (int) (hash + i) & SLOTS - 1;
                 if (slots[slot] == 0 || isKeyAt(slots[slot] - 1)) {
                     return slot;
                 }
@@ -1706,11 +1709,14 @@ public final class SaidShallow {
     private static final class Rows {
         /** A deep word of 3 has 64 + 4 * 3 * 64 ROWS at most. */
         static final int MOST_LISTED = 1024;
+        /** The next PAIR is one of the next sign, or one of silence. */
+        static final int FIRST_SILENT = Tongue.ROOM_OF_ONE;
+        static final int CHOICES = 2 * FIRST_SILENT;
         static final int SHORT_UNIT = 59049;
         static final int SHORT_CODES = 6561;
 
-        private final Tongue tongue;
-        private final Words words;
+        final Tongue tongue = new Tongue();
+        final Words words = new Words();
         private final Track track = new Track();
         private final DeadEnds deadEnds = new DeadEnds();
         private final int[] given = new int[LONGEST_WORD];
@@ -1728,12 +1734,8 @@ public final class SaidShallow {
         final int[] masks = new int[MOST_LISTED];
         int listed;
         private final int[] marks = new int[SHORT_CODES];
-        private final boolean[] needed = new boolean[SETS];
-
-        Rows(Tongue itsTongue, Words itsWords) {
-            tongue = itsTongue;
-            words = itsWords;
-        }
+        /** By a set of RULES: 1 if one of them must stay IN USE. */
+        private final int[] needed = new int[SETS];
 
         void takeSigns(int[] signs, int count) {
             length = Math.max(0, Math.min(count, Math.min(signs.length, LONGEST_WORD)));
@@ -1788,13 +1790,16 @@ public final class SaidShallow {
                 }
             }
             boolean any = at == length && complete(depth, code);
-            int pairs = depth < LONGEST_SEARCHED ? tongue.pairCount : 0;
-            for (int pair = 0; pair < pairs && !words.tooMany; pair++) {
-                int sign = deepGiven ? tongue.deepOf[pair] : tongue.saidOf[pair];
+            int choices = depth < LONGEST_SEARCHED ? CHOICES : 0;
+            for (int i = at < length ? 0 : FIRST_SILENT; i < choices && !words.tooMany; i++) {
+                int sign = i < FIRST_SILENT ? given[at] : 0;
+                int pair = choiceOf(sign, i % FIRST_SILENT);
+                if (pair == NONE) {
+                    continue;
+                }
                 int other = deepGiven ? tongue.saidOf[pair] : tongue.deepOf[pair];
                 int cost = sign == 0 || other == 0 ? 1 : 0;
-                boolean isNext = sign == 0 || (at < length && given[at] == sign);
-                if (!isNext || cost > slackLeft || isLeft(track.step(tongue, watched, depth, pair))) {
+                if (cost > slackLeft || isLeft(track.step(tongue, watched, depth, pair))) {
                     continue;
                 }
                 row[depth] = pair;
@@ -1810,12 +1815,17 @@ public final class SaidShallow {
             return any;
         }
 
+        private int choiceOf(int sign, int place) {
+            int at = sign * FIRST_SILENT + place;
+            return (deepGiven ? tongue.pairsOfDeep[at] : tongue.pairsOfSaid[at]) - 1;
+        }
+
         private boolean isLeft(int broken) {
             return (broken & firstSet) != 0 && (broken & secondSet) != 0;
         }
 
         private boolean complete(int depth, int code) {
-            int broken = track.finish(tongue, watched, depth);
+            int broken = track.finish(watched, depth);
             if (isLeft(broken) || !hasWanted(depth)) {
                 return false;
             }
@@ -1838,9 +1848,20 @@ public final class SaidShallow {
         }
 
         boolean hasAllowedRowWith(int pair, int inUse, int slack) {
+            if (!hasSign(tongue.deepOf[pair])) {
+                return false;
+            }
             wanted = pair;
             list(inUse, inUse, inUse, slack);
             return listed > 0;
+        }
+
+        private boolean hasSign(int sign) {
+            boolean has = sign == 0;
+            for (int i = 0; i < length; i++) {
+                has |= given[i] == sign;
+            }
+            return has;
         }
 
         /** Whether the word taken is SAID otherwise by one set than by the other. */
@@ -1872,7 +1893,7 @@ public final class SaidShallow {
         }
 
         void clearNeeded() {
-            Arrays.fill(needed, false);
+            Arrays.fill(needed, 0);
         }
 
         /** Notes, of which sets of RULES one at least must stay for the word taken. */
@@ -1885,7 +1906,7 @@ public final class SaidShallow {
             }
             for (int i = 0; i < listed; i++) {
                 if (marks[shortCode(i)] == 0) {
-                    needed[masks[i]] = true;
+                    needed[masks[i]] = 1;
                 }
             }
             clearMarks();
@@ -1904,7 +1925,7 @@ public final class SaidShallow {
 
         private boolean meetsNeeds(int set) {
             for (int mask = 0; mask < SETS; mask++) {
-                if (needed[mask] && (mask & set) == 0) {
+                if (needed[mask] == 1 && (mask & set) == 0) {
                     return false;
                 }
             }
@@ -1981,10 +2002,9 @@ public final class SaidShallow {
         static final int WORDS = 73;
         static final int FIRST_OF_TWO = 9;
 
-        private final Tongue tongue;
-        private final Rows rows;
         private final int[] after = new int[MOST_RULES * WORDS];
-        private final boolean[] agrees = new boolean[WORDS * WORDS];
+        /** By a word's number and that of one that may be said: 1 if it is SAID so. */
+        private final int[] agrees = new int[WORDS * WORDS];
         private final int[] inUse = new int[MOST_ORDERED];
         private int ordered;
         private final int[] path = new int[MOST_ORDERED];
@@ -1996,31 +2016,25 @@ public final class SaidShallow {
         private int knownLength;
         private int knownChanges = NONE;
 
-        BestOrder(Tongue itsTongue, Rows itsRows) {
-            tongue = itsTongue;
-            rows = itsRows;
-        }
-
-        int wordCount() {
-            int letters = tongue.letterCount;
+        int wordCount(int letters) {
             return knownLength == 2 ? letters + letters * letters : letters;
         }
 
-        void refresh(int n, Standing standing, int changes) {
+        void refresh(int n, Rows rows, Standing standing, int changes) {
             if (knownChanges == changes && knownLength == n) {
                 return;
             }
             knownChanges = changes;
             knownLength = n;
             ordered = 0;
-            for (int k = 0; k < tongue.ruleCount; k++) {
+            for (int k = 0; k < rows.tongue.ruleCount; k++) {
                 if ((standing.inUse >> k & 1) == 1 && ordered < MOST_ORDERED) {
                     inUse[ordered] = k;
                     ordered++;
-                    fillAfter(k);
+                    fillAfter(rows.tongue, k);
                 }
             }
-            fillAgrees(standing);
+            fillAgrees(rows, standing);
             for (int i = 0; i < WORDS; i++) {
                 stages[i] = i;
             }
@@ -2028,14 +2042,14 @@ public final class SaidShallow {
             tryOrders(0, 0);
         }
 
-        private int numberOf(int first, int second) {
+        private static int numberOf(int first, int second) {
             if (first == 0) {
                 return 0;
             }
             return second == 0 ? first : FIRST_OF_TWO + (first - 1) * MOST_LETTERS + second - 1;
         }
 
-        private void fillAfter(int k) {
+        private void fillAfter(Tongue tongue, int k) {
             for (int first = 0; first <= tongue.letterCount; first++) {
                 int most = first == 0 ? 0 : tongue.letterCount;
                 for (int second = 0; second <= most; second++) {
@@ -2050,26 +2064,27 @@ public final class SaidShallow {
             }
         }
 
-        private void fillAgrees(Standing standing) {
-            Arrays.fill(agrees, false);
-            for (int first = 1; first <= tongue.letterCount; first++) {
-                int most = knownLength == 2 ? tongue.letterCount : 0;
+        private void fillAgrees(Rows rows, Standing standing) {
+            Arrays.fill(agrees, 0);
+            int letters = rows.tongue.letterCount;
+            for (int first = 1; first <= letters; first++) {
+                int most = knownLength == 2 ? letters : 0;
                 for (int second = 0; second <= most; second++) {
                     word[0] = first;
                     word[1] = second;
                     rows.takeSigns(word, second == 0 ? 1 : 2);
                     rows.list(standing.inUse, standing.inUse, standing.inUse, standing.slack);
-                    noteSaid(numberOf(first, second));
+                    noteSaid(rows, numberOf(first, second));
                 }
             }
         }
 
-        private void noteSaid(int number) {
+        private void noteSaid(Rows rows, int number) {
             for (int i = 0; i < rows.listed; i++) {
                 int code = rows.codes[i];
                 if (Words.signIn(code, 2) == 0) {
                     int said = numberOf(Words.signIn(code, 0), Words.signIn(code, 1));
-                    agrees[number * WORDS + said] = true;
+                    agrees[number * WORDS + said] = 1;
                 }
             }
         }
@@ -2095,9 +2110,7 @@ public final class SaidShallow {
         private void judge(int depth) {
             int agreed = 0;
             for (int w = 0; w < WORDS; w++) {
-                if (agrees[w * WORDS + stages[depth * WORDS + w]]) {
-                    agreed++;
-                }
+                agreed += agrees[w * WORDS + stages[depth * WORDS + w]];
             }
             if (agreed > bestAgreed) {
                 bestAgreed = agreed;
