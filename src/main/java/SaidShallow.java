@@ -52,7 +52,6 @@ public final class SaidShallow {
     private int changes;
 
     public SaidShallow() {
-        standing.restart(0);
     }
 
     public int feed(int a, int b, int c, int d, int e) {

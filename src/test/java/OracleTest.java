@@ -18,12 +18,13 @@ public final class OracleTest {
     }
 
     public static void main(String[] args) {
-        int runs = args.length > 0 ? Integer.parseInt(args[0]) : 260;
+        int runs = args.length > 0 ? Integer.parseInt(args[0]) : 200;
         if (args.length > 1) {
             seed = Long.parseLong(args[1]);
         }
         for (int run = 0; run < runs && wrong < 10; run++) {
-            new OracleTest().run(run);
+            new OracleTest().run();
+            new OracleTest().runLong();
         }
         System.out.println(answers + " answers held against the model, " + wrong + " wrong");
         System.exit(wrong == 0 ? 0 : 1);
@@ -67,7 +68,32 @@ public final class OracleTest {
         trail.append("tape \"").append(bytes).append("\"\n");
     }
 
-    private void run(int run) {
+    /** Long words and RULES that look far to the right: states with much that is owed. */
+    private void runLong() {
+        int wrongBefore = wrong;
+        String text = Texts.farSighted();
+        tape(text);
+        same("text()", it.text(), model.text(text));
+        for (int i = 0; i < 6 && wrong == wrongBefore; i++) {
+            if (below(3) == 0) {
+                using();
+            }
+            String word = word(5, 8);
+            boolean deep = below(2) == 0;
+            tape(word);
+            if (deep) {
+                same("say()", it.say(), model.say(word));
+            } else {
+                same("hear()", it.hear(), model.hear(word));
+            }
+            for (int k = 0; k < model.found.size() && calls < 500; k += 1 + below(9)) {
+                int at = below(9);
+                same("found(" + k + "," + at + ")", it.found(k, at), model.found(k, at));
+            }
+        }
+    }
+
+    private void run() {
         int wrongBefore = wrong;
         tellText(0);
         for (int i = 0; i < 400 && calls < 440 && wrong == wrongBefore; i++) {
@@ -407,6 +433,27 @@ public final class OracleTest {
                     put("*");
                 }
             }
+        }
+
+        private static String one(String... all) {
+            return all[below(all.length)];
+        }
+
+        static String farSighted() {
+            StringBuilder text = new StringBuilder("letters ab;pair a:b;pair b:a;");
+            text.append(one("", "", "pair a:0;", "pair 0:b;", "pair b:0;pair 0:a;"));
+            for (int i = 2 + below(6); i > 0; i--) {
+                text.append("rule ").append(one("a:b", "b:a", "a:a", "b:b"));
+                text.append(one("=>", "=>", "=>", "<=", "<=>", "/<="));
+                for (int k = below(2); k >= 0; k--) {
+                    text.append(one("", "", "", "#", "?:b", "a:?", "#?:a*", "b:?a:?*", "a:b?*"));
+                    text.append('_');
+                    text.append(one("?*a:b#", "?*b:a a#", "?:a*b:b?:a#", "?:b ?:b*a:?#", "a:? ?*?:a", "??*b#",
+                        "? ? ?:a", "?*?:b ?:b?*", "?:a* ?:b ?:a*#", "a:?*b:?a:?*#", "#", "?#", "??#"));
+                    text.append(k > 0 ? "|" : ";");
+                }
+            }
+            return text.toString();
         }
 
         static String spoil(String text) {

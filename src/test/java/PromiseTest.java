@@ -417,6 +417,11 @@ public final class PromiseTest {
         fault("letters a  \n", 1, 12);
         fault("letters a;\n letter b;", 1, 12);
         fault("lettersx a;", 1, 0);
+        fault("metters a;", 1, 0);
+        fault("letterz a;", 1, 0);
+        fault("letters a;dnd;", 1, 10);
+        fault("letters a;air a:a;", 1, 10);
+        fault("letters a;rul e a:a=>_;", 1, 10);
         fault("lettersa;", 1, 0);
         fault(";", 1, 0);
         fault("letters A;", 1, 8);
@@ -439,6 +444,15 @@ public final class PromiseTest {
         fault("letters a;rule a:a _;", 1, 19);
         fault("letters a;rule a:a =< _;", 1, 19);
         fault("letters a;rule a:a = > _;", 1, 19);
+        fault("letters a;rule a:a >> _;", 1, 19);
+        fault("letters a;rule a:a <> _;", 1, 19);
+        fault("letters a;rule a:a == _;", 1, 19);
+        fault("letters a;rule a:a >=> _;", 1, 19);
+        fault("letters a;rule a:a /=> _;", 1, 19);
+        fault("letters a;rule a:a ==>_;", 1, 19);
+        fault("letters a;rule a:a =>=_;", 1, 21);
+        fault("letters a;rule a:a <", 1, 19);
+        fault("letters a;rule a:a", 1, 18);
         fault("letters a;rule a:a < = _;", 1, 19);
         fault("letters a;rule a:a /<_;", 1, 19);
         fault("letters a;rule a:a /<=>_;", 1, 22);
@@ -841,6 +855,10 @@ public final class PromiseTest {
         fresh("letters ab;pair a:b;rule a:b=>a a a a b_b a a a a;");
         due("5 ITEMS a side", walk("aaaaaaaabbabbbaaaaaaaa"), NONE);
         due("one is missing", walk("aaaaaabbabbbaaaaaaaa"), 0);
+        fresh("letters ab;pair a:b;rule a:b=>#b a a a a_a a a a b#;");
+        due("# and 5 ITEMS a side", walk("bbaaaaaaaaabaaaaaaaabb"), NONE);
+        due("one ahead of them", walk("bbbbaaaaaaaaabaaaaaaaabb"), 0);
+        due("one behind them", walk("bbaaaaaaaaabaaaaaaaabbbb"), 0);
         fresh("letters ab;pair a:b;rule a:b=>0_|_0;");
         due("0 alone is no PAIR", walk("aaab"), 0);
     }
@@ -1044,6 +1062,12 @@ public final class PromiseTest {
         due("the last is not both", it.quarrel(0, 1), NONE);
         fresh("letters abc;rule a:b<=_b;rule a:c<=_?*c#;");
         due("one behind it", it.quarrel(0, 1), 3);
+        fresh("letters abc;rule a:b<=#a*b*a b c_;rule a:c<=#a a b c_;");
+        due("5 ITEMS with * in 4 PAIRS", it.quarrel(0, 1), 5);
+        due("the other way", it.quarrel(1, 0), 5);
+        fresh("letters abc;rule a:b<=_a*b*a b c#;rule a:c<=_a a b c#;");
+        due("5 ITEMS with * on the right", it.quarrel(0, 1), 5);
+        due("the other way", it.quarrel(1, 0), 5);
         fresh("letters ab;pair a:0;rule b:a<=a:?_;rule b:0<=?:0_;");
         due("PAIRS with silence", it.quarrel(0, 1), 2);
         fresh("letters ab;rule b:a<=0_;rule b:0<=_;");
