@@ -636,9 +636,23 @@ public final class PromiseTest {
         due("length", it.found(1, NONE), 9);
         due("the ninth", it.found(1, 8), 1);
         tooMany();
+        manyDeadEnds();
         fresh("letters ab;rule a:a/<=_;rule b:b/<=_;");
         due("no words", say("ab"), 0);
         due("none", it.found(0, NONE), NONE);
+    }
+
+    /** The RULES remember the last four PAIRS, and none of all the ROWS ends well. */
+    private void manyDeadEnds() {
+        fresh("letters abcdh;pair a:b;pair a:c;pair a:d;pair 0:a;pair 0:b;pair 0:c;"
+            + "rule a:a/<=a:b???0_|a:c???0_|a:d???0_;rule a:b/<=0:a???0_|0:b???0_|0:c???0_;"
+            + "rule b:b/<=a:b??0_|a:c??0_|a:d??0_;rule c:c/<=a:b?0_|a:c?0_|a:d?0_;rule h:h/<=_;");
+        due("no words", say("aaaaaaah"), 0);
+        it.use(15);
+        due("more than 200", say("aaaaaaah"), NONE - 1);
+        it.use(31);
+        due("no words", say("aaaaaaah"), 0);
+        due("4 words, and 15 with one said alone", say("a"), 4 + 2 * 12 - 9);
     }
 
     private void tooMany() {
