@@ -1756,7 +1756,7 @@ public final class SaidShallow {
         void collect(boolean isDeepGiven, int inUse, int slack) {
             deepGiven = isDeepGiven;
             collecting = true;
-            watched = inUse;
+            watched = deepGiven ? breakable(inUse) : inUse;
             firstSet = inUse;
             secondSet = inUse;
             wanted = NONE;
@@ -1769,13 +1769,33 @@ public final class SaidShallow {
         void list(int oneSet, int otherSet, int watchedRules, int slack) {
             deepGiven = true;
             collecting = false;
-            watched = watchedRules;
+            watched = breakable(watchedRules);
             firstSet = oneSet;
             secondSet = otherSet;
             listed = 0;
             track.begin(tongue);
             descend(0, 0, slack, 0, 0);
             wanted = NONE;
+        }
+
+        /** A RULE can't be broken by a deep word without its deep S: it needs no watching. */
+        private int breakable(int set) {
+            int some = 0;
+            for (int k = 0; k < tongue.ruleCount; k++) {
+                if ((set >> k & 1) == 1 && hasSign(tongue.rules[k].deep)) {
+                    some |= 1 << k;
+                }
+            }
+            return some;
+        }
+
+        /** Whether a ROW of the word taken may have the deep S. */
+        private boolean hasSign(int sign) {
+            boolean has = sign == 0;
+            for (int i = 0; i < length; i++) {
+                has |= given[i] == sign;
+            }
+            return has;
         }
 
         /** Whether a whole ROW lies behind this one of depth PAIRS. */
@@ -1855,16 +1875,11 @@ public final class SaidShallow {
             return listed > 0;
         }
 
-        private boolean hasSign(int sign) {
-            boolean has = sign == 0;
-            for (int i = 0; i < length; i++) {
-                has |= given[i] == sign;
-            }
-            return has;
-        }
-
         /** Whether the word taken is SAID otherwise by one set than by the other. */
         boolean tellsApart(int one, int other, int slack) {
+            if (breakable(one ^ other) == 0) {
+                return false;
+            }
             list(one, other, one | other, slack);
             for (int i = 0; i < listed; i++) {
                 int byOne = (masks[i] & one) == 0 ? 1 : 0;
