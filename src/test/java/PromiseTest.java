@@ -6,19 +6,13 @@ import java.util.Arrays;
 import java.util.TreeSet;
 
 /** For each promise of the document: ordinary inputs, the edges it names, wrong inputs. */
-public final class PromiseTest {
-    private static final int NONE = SaidShallow.NONE;
-    private static int wrong;
-    private static int checks;
-    private static int promise;
-
-    private SaidShallow it = new SaidShallow();
-
+public final class PromiseTest extends Checks {
     public static void main(String[] args) {
-        for (promise = 1; promise <= 30; promise++) {
+        for (int promise = 1; promise <= 30; promise++) {
+            about = "promise " + promise;
             new PromiseTest().check(promise);
         }
-        promise = 0;
+        about = "the face";
         new PromiseTest().checkFace();
         System.out.println(checks + " checks of promises, " + wrong + " wrong");
         System.exit(wrong == 0 ? 0 : 1);
@@ -57,134 +51,6 @@ public final class PromiseTest {
             case 29: image(); break;
             default: look();
         }
-    }
-
-    // ---- help
-
-    private static void due(String what, long got, long want) {
-        checks++;
-        if (got != want) {
-            wrong++;
-            System.out.println("promise " + promise + ": " + what + " answered " + got + ", due is " + want);
-        }
-    }
-
-    private static void due(String what, boolean got, boolean want) {
-        due(what, got ? 1 : 0, want ? 1 : 0);
-    }
-
-    private static void due(String what, String got, String want) {
-        checks++;
-        if (!got.equals(want)) {
-            wrong++;
-            System.out.println("promise " + promise + ": " + what + " answered \"" + got + "\", due is \"" + want + "\"");
-        }
-    }
-
-    private void tape(String bytes) {
-        StringBuilder padded = new StringBuilder(bytes);
-        while (padded.length() % 20 != 0) {
-            padded.append('!');
-        }
-        it.end(0);
-        for (int i = 0; i < padded.length(); i += 20) {
-            int[] numbers = new int[5];
-            for (int k = 0; k < 20; k++) {
-                numbers[k / 4] = numbers[k / 4] << 8 | padded.charAt(i + k);
-            }
-            it.feed(numbers[0], numbers[1], numbers[2], numbers[3], numbers[4]);
-        }
-        it.end(bytes.length());
-    }
-
-    /** How many bytes the TAPE has: the most that end() takes, found without changing it. */
-    private int tapeLength() {
-        int length = 600;
-        while (length > 0 && !it.end(length)) {
-            length--;
-        }
-        return length;
-    }
-
-    private int tell(String text) {
-        tape(text);
-        return it.text();
-    }
-
-    private void fresh(String text) {
-        it = new SaidShallow();
-        int rules = tell(text);
-        if (rules == NONE) {
-            due("text() of " + text + " at " + it.fault(1), rules, 0);
-        }
-    }
-
-    private int say(String word) {
-        tape(word);
-        return it.say();
-    }
-
-    private int hear(String word) {
-        tape(word);
-        return it.hear();
-    }
-
-    private int understand(String word) {
-        tape(word);
-        return it.understand();
-    }
-
-    private int walk(String row) {
-        tape(row);
-        return it.walk();
-    }
-
-    private int ages(String word) {
-        tape(word);
-        return it.ages();
-    }
-
-    private int example(String couple, boolean right) {
-        tape(couple);
-        return it.example(right);
-    }
-
-    /** What was found, by the letters given, words parted by commas. */
-    private String words(String letters) {
-        StringBuilder all = new StringBuilder();
-        for (int i = 0; it.found(i, NONE) != NONE; i++) {
-            all.append(i > 0 ? "," : "");
-            for (int k = 0; k < it.found(i, NONE); k++) {
-                all.append(letters.charAt(it.found(i, k)));
-            }
-        }
-        return all.toString();
-    }
-
-    private String agedWord(String letters) {
-        StringBuilder word = new StringBuilder();
-        for (int k = 0; it.aged(k) != NONE; k++) {
-            word.append(letters.charAt(it.aged(k)));
-        }
-        return word.toString();
-    }
-
-    private void fault(String text, int kind, int place) {
-        it = new SaidShallow();
-        due("text() of \"" + text + "\"", tell(text), NONE);
-        due("fault(0) of \"" + text + "\"", it.fault(0), kind);
-        due("fault(1) of \"" + text + "\"", it.fault(1), place);
-    }
-
-    private void sound(String text, int rules) {
-        it = new SaidShallow();
-        due("text() of \"" + text + "\" at " + it.fault(1), tell(text), rules);
-        due("fault(0) of \"" + text + "\"", it.fault(0), 0);
-        due("fault(1) of \"" + text + "\"", it.fault(1), NONE);
-    }
-
-    private static String times(String piece, int n) {
-        return piece.repeat(n);
     }
 
     // ---- the face
