@@ -411,7 +411,7 @@ public final class PromiseBoundaryTest extends Checks {
     }
 
     private void found() {
-        says(10, "Of the i-th word that the latest say() or hear() found: its letter k, k NONE: how many letters");
+        says(10, "its letter k (0 .. 7: number of LETTERS), k NONE: how many letters");
         fresh("letters abc;pair a:b;pair b:0;");
         say("ab");
         due("words", words("abc"), "a,ab,b,bb");
@@ -854,7 +854,7 @@ public final class PromiseBoundaryTest extends Checks {
     // ---- 28 .. 30
 
     private void rule() {
-        says(28, "Of a RULE what 0 deep S, 1 said S, 2 OP, 3 how many CONTEXTS, 4 1 if it is IN USE, else 0");
+        says(28, "3 how many CONTEXTS, 4 1 if it is IN USE, else 0");
         fresh("letters abcdefgh;rule a:h=>_;rule h:a<=_|_;rule h:0<=>_|_|_;rule 0:h/<=_;");
         it.use(10);
         int[][] told = {{1, 8, 0, 1, 0}, {8, 1, 1, 2, 1}, {8, 0, 2, 3, 0}, {0, 8, 3, 1, 1}};

@@ -1,5 +1,8 @@
+import java.util.ArrayList;
 import java.util.Arrays;
 import java.util.List;
+import java.util.TreeMap;
+import java.util.TreeSet;
 
 /** Each sentence of the document's Terms that names a boundary, on both of its sides. */
 public final class TermsBoundaryTest extends Checks {
@@ -18,6 +21,7 @@ public final class TermsBoundaryTest extends Checks {
         test.contexts();
         test.rulesAreKept();
         test.slackOfSaid();
+        test.saidByAllowedRows();
         test.wordsFound();
         test.understandAndWalk();
         test.agesOfWords();
@@ -762,7 +766,7 @@ public final class TermsBoundaryTest extends Checks {
         due("one ahead", walk("bbaaccbb"), NONE);
         due("one behind", walk("aaccbbbb"), NONE);
 
-        says("the first and the last place of a ROW");
+        says("A CONTEXT holds at place i of a ROW");
         fresh("letters ab;pair a:b;rule a:b/<=_;");
         due("the first of 16", walk("ab" + times("aa", 15)), 0);
         due("its place", it.where(), 0);
@@ -848,6 +852,89 @@ public final class TermsBoundaryTest extends Checks {
         due("two must", say("aa"), 0);
         it.slack(0);
         due("one must be silent", say("a"), 0);
+    }
+
+    private static final List<String> LEFTS = List.of("", "#", "a", "#a", "a*", "#a*", "b?*", "#b*a:?", "a:0", "?:b*a", "0:b*", "????");
+    private static final List<String> RIGHTS = List.of("", "#", "b", "b#", "b*", "b*#", "?*a", "?:b*b#", "a:0", "a?:b*", "0:b*", "????");
+
+    private void saidByAllowedRows() {
+        says("A word DEEP is SAID as another one, if there is an ALLOWED ROW of deep S, silence left out, that word, "
+            + "and of said S likewise the other one");
+        String[] heads = {"a:b=>", "a:0<=", "a:b/<=", "a:b<=>", "0:b=>", "a:a/<=", "b:b=>"};
+        for (int i = 0; i < LEFTS.size(); i++) {
+            for (int k = 0; k < heads.length; k++) {
+                String one = LEFTS.get(i) + "_" + RIGHTS.get((i + k) % RIGHTS.size());
+                String other = LEFTS.get((i + 5 * k + 1) % LEFTS.size()) + "_" + RIGHTS.get((i + 3 * k + 2) % RIGHTS.size());
+                String text = "letters ab;pair a:b;pair a:0;pair 0:b;rule " + heads[k] + one + "|" + other + ";rule "
+                    + heads[(k + 2) % heads.length] + other + ";";
+                holdSaidToRows(text, (i + k) % 4 == 0 ? 0 : 1);
+            }
+        }
+    }
+
+    /** By walk() alone: all ROWS of all deep words of up to three LETTERS; then say() and hear() must tell the same. */
+    private void holdSaidToRows(String text, int slack) {
+        TreeMap<String, TreeSet<String>> said = new TreeMap<>();
+        TreeMap<String, TreeSet<String>> heard = new TreeMap<>();
+        fresh(text);
+        for (String deep : wordsUpTo(3)) {
+            said.put(deep, new TreeSet<>());
+            walkRows(text, deep, 0, slack, "", said.get(deep));
+            for (String word : said.get(deep)) {
+                heard.computeIfAbsent(word, none -> new TreeSet<>()).add(deep);
+            }
+        }
+        fresh(text);
+        it.slack(slack);
+        for (String word : List.of("a", "b", "ab", "ba", "bb", "aab", "abb", "baa")) {
+            due("how many say() of " + word + " by " + text, say(word), said.get(word).size());
+            due("say() of " + word + " by " + text, words("ab"), String.join(",", said.get(word)));
+        }
+        fresh(text);
+        it.slack(slack);
+        for (String word : List.of("a", "b", "ab", "bb")) {
+            TreeSet<String> deeps = heard.getOrDefault(word, new TreeSet<>());
+            due("how many hear() of " + word + " by " + text, hear(word), deeps.size());
+            due("hear() of " + word + " by " + text, words("ab"), String.join(",", deeps));
+        }
+    }
+
+    private static List<String> wordsUpTo(int length) {
+        List<String> all = new ArrayList<>(List.of(""));
+        for (int i = 0; i < (1 << length) - 1; i++) {
+            all.add(all.get(i) + "a");
+            all.add(all.get(i) + "b");
+        }
+        return all;
+    }
+
+    private int walked;
+
+    private void walkRows(String text, String deep, int at, int slackLeft, String row, TreeSet<String> said) {
+        if (at == deep.length() && !row.isEmpty()) {
+            walked++;
+            if (walked % 100 == 0) {
+                fresh(text);
+            }
+            if (walk(row) == NONE) {
+                said.add(saidOf(row));
+            }
+        }
+        for (String pair : List.of("aa", "bb", "ab", "a0", "0b")) {
+            boolean isSilent = pair.contains("0");
+            boolean takes = pair.charAt(0) == '0' || (at < deep.length() && pair.charAt(0) == deep.charAt(at));
+            if (takes && (slackLeft > 0 || !isSilent)) {
+                walkRows(text, deep, pair.charAt(0) == '0' ? at : at + 1, isSilent ? slackLeft - 1 : slackLeft, row + pair, said);
+            }
+        }
+    }
+
+    private static String saidOf(String row) {
+        StringBuilder said = new StringBuilder();
+        for (int i = 1; i < row.length(); i += 2) {
+            said.append(row.charAt(i) == '0' ? "" : row.substring(i, i + 1));
+        }
+        return said.toString();
     }
 
     // ---- part 3: words
@@ -1043,7 +1130,7 @@ public final class TermsBoundaryTest extends Checks {
         fresh("letters abc;rule a:a<=_;");
         due("with itself", ages("abc"), 3);
 
-        says("a word that AGES leave without letters");
+        says("(0: it is gone)");
         fresh("letters ab;rule a:0=>_;rule a:b=>_;rule b:a=>#_#;");
         due("none", ages("a"), 0);
         due("no letter", it.aged(0), NONE);
