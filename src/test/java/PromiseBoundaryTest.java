@@ -235,6 +235,13 @@ public final class PromiseBoundaryTest extends Checks {
         due("ORDER", it.look(50) * 10 + it.look(51), 1);
         due("SLACK is not told anew", it.look(6), 0);
         due("EXAMPLES begin anew", example("a:a", true), 0);
+        fresh("letters ab;pair a:b;rule a:b/<=_;");
+        example("a:a", true);
+        example("b:b", true);
+        tell("letters ab;pair a:b;rule a:b/<=_;");
+        due("another first one", example("a:b", false), 0);
+        due("is wrong", it.fits(0), 0);
+        due("is not SAID", it.fits(1), 1);
         anew();
         says(4, "NONE: a FAULT (all stays as it was)");
         String[] bad = {"letters abc;class A a;pair a:c;rule b:c=>_;stem b;end b;@", "letters aa;", "letters abcdefghi;", "@",

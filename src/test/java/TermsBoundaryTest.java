@@ -1242,6 +1242,12 @@ public final class TermsBoundaryTest extends Checks {
         }
         due("a set and itself", it.parts(15, 15, 3), NONE);
         due("what the others hold", it.parts(8, 15, 3), NONE);
+        fresh("letters abcdefgh;pair h:g;pair 0:h;rule h:g/<=h h 0:h_|h 0:h h_|0:h h h_;");
+        due("hhh is said hhhh by both, hhhg by one", it.parts(0, 1, 3), 583);
+        due("the other way", it.parts(1, 0, 3), 583);
+        due("not up to 2", it.parts(0, 1, 2), NONE);
+        it.slack(0);
+        due("not without SLACK", it.parts(0, 1, 3), NONE);
 
         says("The first word that PARTS them: by its length, then in order");
         fresh("letters ba;pair a:b;pair b:a;rule a:b/<=b_;rule b:a/<=_;rule a:b/<=_;rule a:b/<=a_;");
