@@ -1370,7 +1370,7 @@ public final class SaidShallow {
 
         /** A FAULT 2 at an ITEM's first sign comes ahead of the FAULT 3 there. */
         private boolean readItems(Side side, int context) {
-            for (int count = 0; startsItem(peek()); count++) {
+            for (int count = 0; count <= MOST_ITEMS && startsItem(peek()); count++) {
                 int start = at;
                 int first = signs[at];
                 if (!readX()) {
@@ -1519,7 +1519,9 @@ public final class SaidShallow {
             if (mask == 0 || isKnown || owedCount[to] >= MOST_OWED) {
                 return mask != 0;
             }
-            System.arraycopy(owed, i, owed, i + 1, base + owedCount[to] - i);
+            for (int behind = base + owedCount[to]; behind > i; behind--) {
+                owed[behind] = owed[behind - 1];
+            }
             owed[i] = mask;
             owedCount[to]++;
             return true;
